@@ -273,8 +273,8 @@ public final class MappedBusNode {
     private void write(int first, int address, int high) {
         transfer.end();
         boolean atOnce = (first & AT_ONCE) != 0;
-        int entry = dictionary.find(address & 0xFFFF, address >> 16);
-        int fault = accessFault(entry, address & 0xFFFF, Dictionary.WRITABLE);
+        int entry = entryAt(address);
+        int fault = accessFault(entry, address, Dictionary.WRITABLE);
         if (fault == 0) {
             fault = lengthFault(first, high, Dictionary.sizeOf(entry));
         }
@@ -314,13 +314,14 @@ public final class MappedBusNode {
         } else {
             transfer.awaitNext();
         }
+        // Bit 4 is answered in its own place, as when a segment is read: 0x20 or 0x30.
         answer(0x20 + (first & TURN), 0, 0);
     }
 
     private void read(int address) {
         transfer.end();
-        int entry = dictionary.find(address & 0xFFFF, address >> 16);
-        int fault = accessFault(entry, address & 0xFFFF, Dictionary.READABLE);
+        int entry = entryAt(address);
+        int fault = accessFault(entry, address, Dictionary.READABLE);
         if (fault != 0) {
             abort(address, fault);
             return;
@@ -353,7 +354,6 @@ public final class MappedBusNode {
         outbox.send(ANSWER_ID + number, 8, part << 8 | head);
     }
 
-    /** An address is index and sub as a request and its answer bear them, in bytes 1 .. 3. */
     private void answer(int first, int address, int high) {
         outbox.send(ANSWER_ID + number, 8, joined(address << 8 | first, high));
     }
@@ -363,10 +363,15 @@ public final class MappedBusNode {
         answer(128, address, code);
     }
 
+    /** An address is index and sub as a request and its answer bear them, in bytes 1 .. 3. */
+    private int entryAt(int address) {
+        return dictionary.find(address & 0xFFFF, address >> 16);
+    }
+
     /** The code to abort with, as for all that are named fault here; 0 when all is well. */
-    private int accessFault(int entry, int index, int right) {
+    private int accessFault(int entry, int address, int right) {
         if (entry == Dictionary.NONE) {
-            return dictionary.hasIndex(index) ? NO_SUB : NO_INDEX;
+            return dictionary.hasIndex(address & 0xFFFF) ? NO_SUB : NO_INDEX;
         }
         if (Dictionary.allows(entry, right)) {
             return 0;

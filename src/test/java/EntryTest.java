@@ -62,10 +62,10 @@ final class EntryTest {
     }
 
     private static void sizes() {
-        MappedBusNode node = new MappedBusNode(5);
         int entries = 0;
         int bytes = 0;
         for (int index = -2; index < 0x10100; index++) {
+            MappedBusNode node = new MappedBusNode(5);
             for (int sub = -1; sub < 6; sub++) {
                 int size = node.size(index, sub);
                 entries += size > 0 ? 1 : 0;
@@ -74,6 +74,7 @@ final class EntryTest {
         }
         Bench.due("how many entries", entries, 22);
         Bench.due("how many bytes", bytes, 95);
+        MappedBusNode node = new MappedBusNode(5);
         NewObjectTest.entriesAreAsAtFirst(node);
         Bench.due("size(MIN, MIN)", node.size(Integer.MIN_VALUE, Integer.MIN_VALUE), 0);
         Bench.due("size(MAX, MAX)", node.size(Integer.MAX_VALUE, Integer.MAX_VALUE), 0);

@@ -27,13 +27,11 @@ final class FrameTest {
     }
 
     private static void foreignFrames() {
-        Bench b = new Bench(2);
         for (int id = 0; id < 2048; id++) {
-            if (id == 0x602) {
-                continue;
-            }
-            Bench.due("frame(" + id + ") in PRE", b.node.frame(id, 8, 0x00100040, 0), 0);
+            MappedBusNode node = new MappedBusNode(2);
+            Bench.due("frame(" + id + ") in PRE", node.frame(id, 8, 0x00100040, 0), id == 0x602 ? 1 : 0);
         }
+        Bench b = new Bench(2);
         for (int length = 0; length < 8; length++) {
             Bench.due("request of " + length, b.node.frame(0x602, length, 0x00100040, 0), 0);
         }
@@ -48,34 +46,35 @@ final class FrameTest {
     }
 
     private static void commands() {
-        Bench b = new Bench(7);
         int[] what = {1, 2, 128};
         int[] state = {5, 4, 127};
         for (int from = 0; from < 3; from++) {
             for (int to = 0; to < 3; to++) {
+                Bench b = new Bench(7);
                 b.command(what[from]);
                 Bench.due("command answers", b.command(what[to]), 0);
                 Bench.due("state from " + from + " to " + to, b.node.state(), state[to]);
+                b.dueSilence("after commands");
             }
         }
-        b.command(1);
         for (int other = 0; other < 256; other++) {
             if (other != 1 && other != 2 && other < 128 || other > 130) {
+                Bench b = new Bench(7);
+                b.command(1);
                 Bench.due("command " + other, b.command(other), 0);
                 Bench.due("state after " + other, b.node.state(), 5);
+                b.dueSilence("after command " + other);
             }
         }
-        b.dueSilence("after commands");
     }
 
     private static void commandsForWhom() {
-        Bench b = new Bench(7);
         for (int whom = 1; whom < 256; whom++) {
-            b.come(0, 128, 0);
-            b.come(0, 1, whom);
-            Bench.due("state after a command for " + whom, b.node.state(), whom == 7 ? 5 : 127);
+            Bench other = new Bench(7);
+            other.come(0, 1, whom);
+            Bench.due("state after a command for " + whom, other.node.state(), whom == 7 ? 5 : 127);
         }
-        b.come(0, 128, 7);
+        Bench b = new Bench(7);
         for (int length = 0; length <= 8; length++) {
             if (length != 2) {
                 b.node.frame(0, length, 1, 0);

@@ -64,7 +64,8 @@ final class GiveTest {
     private static void onEachSync() {
         for (int type : new int[] {1, 2, 3, 240}) {
             Bench b = running(type, Bench.name(0x2000, 1));
-            for (int round = 0; round < 2; round++) {
+            int rounds = type < 100 ? 2 : 1;
+            for (int round = 0; round < rounds; round++) {
                 for (int k = 1; k < type; k++) {
                     Bench.due("SYNC " + k + " of " + type, b.sync(), 0);
                 }

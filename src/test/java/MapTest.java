@@ -16,11 +16,11 @@ final class MapTest {
     }
 
     private static void names(int map, int... good) {
-        Bench b = new Bench(3);
         int[] index = {0x1000, 0x1001, 0x1017, 0x1600, 0x1800, 0x1A00, 0x2000, 0x2001, 0x2002, 0x2003,
             0x2004, 0x2005, 0x2006, 0x2007, 0x2008};
         for (int sub = 1; sub <= 4; sub++) {
             for (int i : index) {
+                Bench b = new Bench(3);
                 int name = Bench.name(i, Math.max(1, b.node.size(i, 0)));
                 boolean fits = false;
                 for (int g : good) {
@@ -38,6 +38,8 @@ final class MapTest {
                 b.writeFails(map, sub, 4, name + 256, NO_NAME);
                 b.writeFails(map, sub, 4, name | 0x80000000, NO_NAME);
             }
+            Bench b = new Bench(3);
+            b.write(map, sub, 4, Bench.name(0x2000, 1));
             b.write(map, sub, 4, 0);
             b.dueBytes(map, sub, 0, 0, 0, 0);
             b.writeFails(map, sub, 4, 1, NO_NAME);

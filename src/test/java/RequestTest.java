@@ -13,11 +13,11 @@ final class RequestTest {
     }
 
     private static void reads() {
-        Bench b = new Bench(6);
-        b.node.set(0x2000, 0, 0xA1, 0);
-        b.node.set(0x2001, 0, 0xB2B1, 0);
-        b.node.set(0x2003, 0, 0xD4D3D2D1, 0);
         for (int low = 0; low < 32; low++) {
+            Bench b = new Bench(6);
+            b.node.set(0x2000, 0, 0xA1, 0);
+            b.node.set(0x2001, 0, 0xB2B1, 0);
+            b.node.set(0x2003, 0, 0xD4D3D2D1, 0);
             b.ask(0x40 + low, 0x2000, 0, -1);
             b.dueAnswer("read 2000", 0x4F, 0x2000, 0, 0xA1);
             b.ask(0x40 + low, 0x2001, 0, -1);
@@ -25,6 +25,7 @@ final class RequestTest {
             b.ask(0x40 + low, 0x2003, 0, -1);
             b.dueAnswer("read 2003", 0x43, 0x2003, 0, 0xD4D3D2D1);
         }
+        Bench b = new Bench(6);
         b.ask(0x40, 0x1800, 2, 0);
         b.dueAnswer("read TYPE", 0x4F, 0x1800, 2, 255);
         b.ask(0x40, 0x1A00, 4, 0);
@@ -34,7 +35,7 @@ final class RequestTest {
         b.dueAnswer("read 2005", 0x41, 0x2005, 0, 8);
         Bench.due("busy() after a long read", b.node.busy(), true);
         b.ask(0x40, 0x2000, 0, 0);
-        b.dueAnswer("read 2000 instead", 0x4F, 0x2000, 0, 0xA1);
+        b.dueAnswer("read 2000 instead", 0x4F, 0x2000, 0, 0);
         Bench.due("the transfer is forgotten", b.node.busy(), false);
     }
 
@@ -87,20 +88,19 @@ final class RequestTest {
     }
 
     private static void refusedWrites() {
-        Bench b = new Bench(6);
         int[][] rows = {{0x1000, 0, 0x06010002}, {0x1001, 0, 0x06010002}, {0x2003, 0, 0x06010002},
             {0x2007, 0, 0x06010002}, {0x2008, 0, 0x06020000}, {0x1601, 1, 0x06020000},
             {0x1800, 0, 0x06090011}, {0x1A00, 5, 0x06090011}, {0x2000, 1, 0x06090011}};
         for (int[] row : rows) {
             for (int first = 0x20; first < 0x40; first++) {
+                Bench b = new Bench(6);
                 b.ask(0x20, 0x2004, 0, 0);
                 b.node.flush();
                 b.ask(first, row[0], row[1], 4);
                 b.dueAbort("write " + Integer.toHexString(row[0]), row[0], row[1], row[2]);
+                NewObjectTest.entriesAreAsAtFirst(b.node);
             }
         }
-        b.dueBytes(0x1001, 0, 0);
-        b.dueBytes(0x2003, 0, 0, 0, 0, 0);
     }
 
     private static void lengthsAtOnce() {
@@ -150,14 +150,15 @@ final class RequestTest {
     }
 
     private static void unknownCommands() {
-        Bench b = new Bench(6);
         for (int first = 0xA0; first < 0x100; first++) {
+            Bench b = new Bench(6);
             b.ask(0x40, 0x2007, 0, 0);
             b.node.flush();
             b.ask(first, 0x1234, 0x56, -1);
             b.dueAbort("command " + first, 0x1234, 0x56, 0x05040001);
         }
         for (int first = 0x80; first < 0xA0; first++) {
+            Bench b = new Bench(6);
             b.ask(0x40, 0x2007, 0, 0);
             b.node.flush();
             Bench.due("command 4 answers", b.ask(first, 0x2000, 0, -1), 0);
@@ -167,13 +168,13 @@ final class RequestTest {
     }
 
     private static void storedTypes() {
-        Bench b = new Bench(6);
         for (int state : new int[] {128, 1}) {
-            b.command(state);
             for (int type = 0; type < 256; type++) {
+                Bench b = new Bench(6);
+                b.command(state);
                 if (type > 240 && type < 254) {
                     b.writeFails(0x1800, 2, 1, type, 0x06090030);
-                    b.dueBytes(0x1800, 2, 240);
+                    b.dueBytes(0x1800, 2, 255);
                 } else {
                     b.write(0x1800, 2, 1, type);
                     b.dueBytes(0x1800, 2, type);

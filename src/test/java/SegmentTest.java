@@ -96,13 +96,14 @@ final class SegmentTest {
     }
 
     private static void notDue() {
-        Bench b = new Bench(15);
         for (int first = 0; first < 0x20; first++) {
+            Bench b = new Bench(15);
             b.segment(first, 0x04, 0x20, 0, 1);
             b.dueAbort("a written segment without a transfer", 0, 0, 0x05040001);
             b.segment(0x60 + first, 0x04, 0x20, 0, 1);
             b.dueAbort("a read segment without a transfer", 0, 0, 0x05040001);
         }
+        Bench b = new Bench(15);
         b.ask(0x20, 0x2004, 0, 0);
         b.node.flush();
         b.segment(0x60, 0x00, 0x20);

@@ -11,13 +11,14 @@ final class TickTest {
     }
 
     private static void life() {
-        Bench b = new Bench(8);
-        for (int k = 0; k < 20; k++) {
-            Bench.due("tick() without LIFE", b.node.tick(), 0);
-        }
         for (int life : new int[] {1, 2, 5, 258}) {
+            Bench b = new Bench(8);
+            for (int k = 0; k < 20; k++) {
+                Bench.due("tick() without LIFE", b.node.tick(), 0);
+            }
             b.write(0x1017, 0, 2, life);
-            for (int round = 0; round < 2; round++) {
+            int rounds = life < 100 ? 2 : 1;
+            for (int round = 0; round < rounds; round++) {
                 for (int k = 1; k < life; k++) {
                     Bench.due("tick() " + k + " of " + life, b.node.tick(), 0);
                 }
@@ -25,6 +26,7 @@ final class TickTest {
                 b.dueFrame("sign of life", 0x708, 127);
             }
         }
+        Bench b = new Bench(8);
         b.write(0x1017, 0, 2, 1);
         b.command(1);
         b.node.tick();
