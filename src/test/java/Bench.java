@@ -1,6 +1,9 @@
 /** A node under test, with short words for what a client does to it and for the answers that are due. */
 final class Bench {
     private static int wrong = 0;
+    private static int looked = 0;
+    /** The promise and the sentence that is looked at, said before each wrong answer. */
+    private static String sentence = "";
 
     final MappedBusNode node;
     final int n;
@@ -15,10 +18,30 @@ final class Bench {
         int go();
     }
 
+    /** One boundary case: the promise's number, the document's words, and the calls that they bind. */
+    static void edge(String promise, String words, Runnable calls) {
+        sentence = "promise " + promise + ", \"" + words + "\": ";
+        int before = looked;
+        try {
+            calls.run();
+        } catch (RuntimeException e) {
+            tell("threw " + e);
+        }
+        if (looked == before) {
+            tell("nothing was looked at");
+        }
+        sentence = "";
+    }
+
+    private static void tell(String what) {
+        wrong++;
+        System.out.println(sentence + what);
+    }
+
     static void due(String what, long got, long want) {
+        looked++;
         if (got != want) {
-            wrong++;
-            System.out.println(what + " answered " + got + ", due is " + want);
+            tell(what + " answered " + got + ", due is " + want);
         }
     }
 
@@ -27,6 +50,7 @@ final class Bench {
     }
 
     static void dueThrow(String what, Class<?> kind, Call call) {
+        looked++;
         String got;
         try {
             got = "answered " + call.go();
@@ -36,8 +60,7 @@ final class Bench {
             }
             got = "threw " + e;
         }
-        wrong++;
-        System.out.println(what + " " + got + ", due is " + kind);
+        tell(what + " " + got + ", due is " + kind);
     }
 
     static void done() {
@@ -107,6 +130,29 @@ final class Bench {
             write(index, k + 1, 4, names[k]);
         }
         write(index, 0, 1, names.length);
+    }
+
+    /** A node that runs and gives these entries with this TYPE. */
+    static Bench giving(int n, int type, int... names) {
+        Bench b = new Bench(n);
+        b.map(0x1A00, names);
+        b.write(0x1800, 2, 1, type);
+        b.command(1);
+        return b;
+    }
+
+    /** A node that runs and takes these entries. */
+    static Bench taking(int n, int... names) {
+        Bench b = new Bench(n);
+        b.map(0x1600, names);
+        b.command(1);
+        return b;
+    }
+
+    /** A transfer begins, and its answer is not looked at. */
+    void begin(int first, int index) {
+        ask(first, index, 0, 0);
+        node.flush();
     }
 
     /** What the outbox has is this one frame; it is emptied. */

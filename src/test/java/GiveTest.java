@@ -14,11 +14,7 @@ final class GiveTest {
     }
 
     private static Bench running(int type, int... names) {
-        Bench b = new Bench(4);
-        b.map(0x1A00, names);
-        b.write(0x1800, 2, 1, type);
-        b.command(1);
-        return b;
+        return Bench.giving(4, type, names);
     }
 
     private static void onChange(int type) {
