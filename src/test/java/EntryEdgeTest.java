@@ -21,6 +21,9 @@ final class EntryEdgeTest {
         Bench.edge("5", "NoSuchElementException when there is no such entry", EntryEdgeTest::valueOfNone);
         Bench.edge("5", "or byte", EntryEdgeTest::valueOfNoByte);
         Bench.edge("5", "byte i is 65 + i", EntryEdgeTest::firstAndLastByte);
+        Bench.edge("2", "each with a SIZE in bytes, and READABLE (r), WRITABLE (w), MAPPABLE (m)",
+                EntryEdgeTest::rights);
+        Bench.edge("5", "Byte i of an entry", EntryEdgeTest::entriesAreApart);
         Bench.edge("6", "How many bytes an entry has", EntryEdgeTest::sizes);
         Bench.edge("5 and 6", "(readable or not, so with value())", EntryEdgeTest::notReadable);
         Bench.edge("6", "0 when there is none", EntryEdgeTest::sizeOfNone);
@@ -140,6 +143,61 @@ final class EntryEdgeTest {
         Bench.due("a byte is not negative", node.value(0x2000, 0, 0), 255);
         node.set(0x2000, 0, 128, 0);
         Bench.due("a byte is not negative", node.value(0x2000, 0, 0), 128);
+    }
+
+    private static void rights() {
+        for (int k = 0; k < INDEX.length; k++) {
+            Bench b = new Bench(5);
+            boolean readable = INDEX[k] != 0x2006;
+            boolean writable = INDEX[k] != 0x1000 && INDEX[k] != 0x1001 && INDEX[k] != 0x2003 && INDEX[k] != 0x2007;
+            b.ask(0x40, INDEX[k], SUB[k], 0);
+            Bench.due("READ " + INDEX[k] + " is aborted", (b.node.out(0, 2) & 255) == 128, !readable);
+            b.node.flush();
+            b.ask(0x20, INDEX[k], SUB[k], 0);
+            Bench.due("WRITE " + INDEX[k] + " is aborted", (b.node.out(0, 2) & 255) == 128, !writable);
+            Bench.due("busy()", b.node.busy(), writable);
+        }
+    }
+
+    private static void entriesAreApart() {
+        Bench b = new Bench(5);
+        b.map(0x1600, Bench.name(0x2000, 1), Bench.name(0x2001, 2), Bench.name(0x2006, 2));
+        b.map(0x1A00, Bench.name(0x2003, 4), Bench.name(0x1001, 1), Bench.name(0x2000, 1), Bench.name(0x2001, 2));
+        b.write(0x1017, 0, 2, 0xFEFD);
+        b.write(0x1800, 2, 1, 9);
+        b.begin(0x20, 0x2004);
+        b.segment(0x00, 201, 202, 203, 204, 205, 206, 207);
+        b.segment(0x15, 208, 209, 210, 211, 212);
+        b.node.set(0x2000, 0, 101, 0);
+        b.node.set(0x2001, 0, 0x6766, 0);
+        b.node.set(0x2002, 0, 0x71707F7E, 0);
+        b.node.set(0x2003, 0, 0x81807F7E, 0);
+        b.node.set(0x2005, 0, 0x94939291, 0x98979695);
+        b.node.set(0x2006, 0, 0xA2A1, 0);
+        b.command(1);
+        b.take();
+        b.dueBytes(0x1000, 0, 0x91, 1, 2, 0);
+        b.dueBytes(0x1001, 0, 16);
+        b.dueBytes(0x1017, 0, 0xFD, 0xFE);
+        b.dueBytes(0x1600, 0, 3);
+        b.dueBytes(0x1600, 1, 8, 0, 0, 0x20);
+        b.dueBytes(0x1600, 2, 16, 0, 1, 0x20);
+        b.dueBytes(0x1600, 3, 16, 0, 6, 0x20);
+        b.dueBytes(0x1600, 4, 0, 0, 0, 0);
+        b.dueBytes(0x1800, 2, 9);
+        b.dueBytes(0x1A00, 0, 4);
+        b.dueBytes(0x1A00, 1, 32, 0, 3, 0x20);
+        b.dueBytes(0x1A00, 2, 8, 0, 1, 0x10);
+        b.dueBytes(0x1A00, 3, 8, 0, 0, 0x20);
+        b.dueBytes(0x1A00, 4, 16, 0, 1, 0x20);
+        b.dueBytes(0x2000, 0, 101);
+        b.dueBytes(0x2001, 0, 0x66, 0x67);
+        b.dueBytes(0x2002, 0, 0x7E, 0x7F, 0x70, 0x71);
+        b.dueBytes(0x2003, 0, 0x7E, 0x7F, 0x80, 0x81);
+        b.dueBytes(0x2004, 0, 201, 202, 203, 204, 205, 206, 207, 208, 209, 210, 211, 212);
+        b.dueBytes(0x2005, 0, 0x91, 0x92, 0x93, 0x94, 0x95, 0x96, 0x97, 0x98);
+        b.dueBytes(0x2006, 0, 0xA1, 0xA2);
+        Bench.due("first byte of 2007", b.node.value(0x2007, 0, 0), 65);
     }
 
     private static void sizes() {

@@ -4,20 +4,23 @@ final class ReadEdgeTest {
         Bench.edge("2 and 8", "2, READ: a transfer that goes on is forgotten", ReadEdgeTest::forgotten);
         Bench.edge("2", "0x06020000, 0x06090011 likewise", ReadEdgeTest::noEntry);
         Bench.edge("2", "0x06010001 when it is not readable", ReadEdgeTest::notReadable);
-        Bench.edge("2", "A size of at most 4: the answer has byte 0 = 0x43 + 4 * (4 - size), index and sub, and the bytes",
-                ReadEdgeTest::atMostFour);
+        Bench.edge("2", "A size of at most 4: the answer has byte 0 = 0x43 + 4 * (4 - size), index and sub, "
+                + "and the bytes", ReadEdgeTest::atMostFour);
         Bench.edge("2 and 8", "Otherwise a transfer begins: byte 0 = 0x41, index and sub, and the size",
                 ReadEdgeTest::moreThanFour);
         Bench.edge("2", "3, A SEGMENT that is read, when such a transfer goes on: 0x05030000 likewise",
                 ReadEdgeTest::wrongTurn);
         Bench.edge("2", "The answer has the next 7 bytes of the entry, as it is then", ReadEdgeTest::asItIsThen);
         Bench.edge("2", "at bytes 1 .. 7, or what there is", ReadEdgeTest::whatThereIs);
+        Bench.edge("2", "byte 0 = 16 * bit 4 of the request + 2 * (7 less their number)", ReadEdgeTest::firstByte);
         Bench.edge("2 and 8", "1 more when they are the last ones; then the transfer ends", ReadEdgeTest::theLastOnes);
+        Bench.edge("2", "Byte 0 has the COMMAND in its highest three bits; INDEX is bytes 1 and 2, SUB byte 3",
+                ReadEdgeTest::partsOfARequest);
         Bench.edge("2 and 8", "4: no transfer goes on; nothing is answered", ReadEdgeTest::commandFour);
         Bench.edge("2 and 8", "Any other command, or a segment that is not due: aborted with 0x05040001",
                 ReadEdgeTest::otherCommands);
-        Bench.edge("2", "of the request, or, while it is about a segment or there is no request, those of the transfer, "
-                + "0 when there is none", ReadEdgeTest::whoseIndex);
+        Bench.edge("2", "of the request, or, while it is about a segment or there is no request, "
+                + "those of the transfer, 0 when there is none", ReadEdgeTest::whoseIndex);
         Bench.done();
     }
 
@@ -144,6 +147,22 @@ final class ReadEdgeTest {
         b.dueFrame("1 there is", 0x586, 0x1D, 0, 0, 0, 0, 0, 0, 0);
     }
 
+    private static void firstByte() {
+        int[] index = {0x2005, 0x2004, 0x2007};
+        int[][] due = {{0x00, 0x1D}, {0x00, 0x15}, {0x00, 0x10, 0x03}};
+        for (int bits = 0; bits < 16; bits++) {
+            for (int k = 0; k < 3; k++) {
+                Bench b = new Bench(6);
+                b.begin(0x40, index[k]);
+                for (int s = 0; s < due[k].length; s++) {
+                    b.segment((s % 2 == 0 ? 0x60 : 0x70) + bits);
+                    Bench.due("byte 0 of segment " + s, b.node.out(0, 2) & 255, due[k][s]);
+                    b.node.flush();
+                }
+            }
+        }
+    }
+
     private static void theLastOnes() {
         int[] index = {0x2005, 0x2004, 0x2007};
         int[] segments = {2, 2, 3};
@@ -159,6 +178,25 @@ final class ReadEdgeTest {
             b.segment(segments[k] % 2 == 0 ? 0x60 : 0x70);
             b.dueAbort("one behind the last", 0, 0, 0x05040001);
         }
+    }
+
+    private static void partsOfARequest() {
+        int[] code = {0x05040001, 0x06020000, 0x06020000, 0x05040001, 0, 0x05040001, 0x05040001, 0x05040001};
+        for (int first = 0; first < 256; first++) {
+            int command = first / 32;
+            Bench b = new Bench(6);
+            Bench.due("byte 0 is " + first, b.ask(first, 0xFF80, 0x81, -1), command == 4 ? 0 : 1);
+            if (command == 0 || command == 3) {
+                b.dueAbort("byte 0 is " + first, 0, 0, code[command]);
+            } else if (command != 4) {
+                b.dueAbort("byte 0 is " + first, 0xFF80, 0x81, code[command]);
+            }
+        }
+        Bench b = new Bench(6);
+        b.ask(0x40, 0x0020, 0, 0);
+        b.dueAbort("the index with its bytes changed round", 0x0020, 0, 0x06020000);
+        b.ask(0x40, 0x1800, 2, 0);
+        b.dueAnswer("index and sub", 0x4F, 0x1800, 2, 255);
     }
 
     private static void commandFour() {

@@ -20,6 +20,7 @@ final class StoreEdgeTest {
                 StoreEdgeTest::rights);
         Bench.edge("2", "TYPE: 0x06090030 when it is 241 .. 253", StoreEdgeTest::types);
         Bench.edge("2 and 3", "LIFE: the LIFE count becomes 0", StoreEdgeTest::life);
+        Bench.edge("2", "TO STORE bytes into an entry", StoreEdgeTest::nothingOfEarlierBytes);
         Bench.edge("2", "no transfer goes on", StoreEdgeTest::refusedBySegment);
         Bench.done();
     }
@@ -238,6 +239,25 @@ final class StoreEdgeTest {
         b.node.flush();
         b.writeFails(0x1017, 0, 1, 2, 0x06070013);
         Bench.due("tick() 2, as LIFE was not stored", b.node.tick(), 1);
+    }
+
+    private static void nothingOfEarlierBytes() {
+        Bench b = new Bench(3);
+        b.write(0x1600, 1, 4, ONE);
+        b.write(0x2002, 0, 4, -1);
+        b.writeFails(0x1800, 2, 1, 241, 0x06090030);
+        b.write(0x2002, 0, 4, -1);
+        b.write(0x1600, 0, 1, 1);
+        b.write(0x1600, 0, 1, 0);
+        b.begin(0x20, 0x2004);
+        b.segment(0x00, 255, 255, 255, 255, 255, 255, 255);
+        b.begin(0x20, 0x1600);
+        b.segment(0x0D, 1);
+        b.dueFrame("n by a segment", 0x583, 0x20, 0, 0, 0, 0, 0, 0, 0);
+        b.dueBytes(0x1600, 0, 1);
+        b.write(0x2002, 0, 4, -1);
+        b.write(0x2001, 0, 2, 0);
+        b.dueBytes(0x2001, 0, 0, 0);
     }
 
     private static void refusedBySegment() {

@@ -5,6 +5,7 @@ final class TickEdgeTest {
         Bench.edge("3", "the LIFE count grows by 1, and when it is that value or more, it becomes 0",
                 TickEdgeTest::roundAfterRound);
         Bench.edge("3", "All numbers of more bytes have the lowest byte first", TickEdgeTest::lifeOfTwoBytes);
+        Bench.edge("3", "when the value of LIFE is not 0", TickEdgeTest::lifeBesideMaps);
         Bench.edge("3", "a frame with the ID 0x700 + N and one byte, the state (whichever it is), is sent",
                 TickEdgeTest::eachState);
         Bench.edge("3 and 8", "when they are 8, it is aborted with 0x05040000", TickEdgeTest::eightTicks);
@@ -71,6 +72,15 @@ final class TickEdgeTest {
                 Bench.due("tick() " + k + " with LIFE " + life, b.node.tick(), 0);
             }
         }
+    }
+
+    private static void lifeBesideMaps() {
+        Bench b = new Bench(8);
+        b.map(0x1600, Bench.name(0x2000, 1));
+        b.map(0x1A00, Bench.name(0x2000, 1));
+        Bench.due("LIFE 0 beside maps", b.node.tick(), 0);
+        b.write(0x1017, 0, 2, 1);
+        Bench.due("LIFE 1 beside maps", b.node.tick(), 1);
     }
 
     private static void eachState() {

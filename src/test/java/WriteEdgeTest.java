@@ -12,14 +12,16 @@ final class WriteEdgeTest {
         Bench.edge("2", "0x06010002 when it is not writable", WriteEdgeTest::notWritable);
         Bench.edge("2", "as many as the entry's size but at most 4", WriteEdgeTest::atOnceUntold);
         Bench.edge("2", "when bit 0 is set, too, 4 less the number in bits 2 and 3", WriteEdgeTest::atOnceTold);
-        Bench.edge("2 and 8", "as many as HIGH (an int, with sign) says when bit 0 is set", WriteEdgeTest::highHasASign);
+        Bench.edge("2 and 8", "as many as HIGH (an int, with sign) says when bit 0 is set",
+                WriteEdgeTest::highHasASign);
         Bench.edge("2 and 8", "else as the entry's size", WriteEdgeTest::transferUntold);
         Bench.edge("2", "Aborted with 0x06070012 when these are more than the entry's size, 0x06070013 when fewer",
                 WriteEdgeTest::lengthBeforeStore);
         Bench.edge("2", "The answer: byte 0 = 0x60, index and sub, 0", WriteEdgeTest::theAnswer);
         Bench.edge("2", "aborted with 0x05030000 when bit 4 is not that due (0 at first, then the other one each time)",
                 WriteEdgeTest::wrongTurn);
-        Bench.edge("2", "Bytes 1 .. 7 less the number in bits 1 .. 3 are put behind the others", WriteEdgeTest::eachNumber);
+        Bench.edge("2", "Bytes 1 .. 7 less the number in bits 1 .. 3 are put behind the others",
+                WriteEdgeTest::eachNumber);
         Bench.edge("2", "0x06070012 when these are more than the size then", WriteEdgeTest::tooMany);
         Bench.edge("2", "when bit 0 is set it is the last one: 0x06070013 when they are fewer than the size",
                 WriteEdgeTest::tooFew);
@@ -52,7 +54,8 @@ final class WriteEdgeTest {
 
     private static void noIndex() {
         Bench b = new Bench(6);
-        for (int index : new int[] {0, 1, 0x0FFF, 0x1002, 0x1601, 0x17FF, 0x1801, 0x1FFF, 0x2008, 0x0020, 0x2100, 0xFFFF}) {
+        for (int index : new int[] {0, 1, 0x0FFF, 0x1002, 0x1601, 0x17FF, 0x1801, 0x1FFF, 0x2008, 0x0020, 0x2100,
+            0xFFFF}) {
             b.writeFails(index, 0, 1, 1, 0x06020000);
             b.writeFails(index, 2, 1, 1, 0x06020000);
             b.writeFails(index, 255, 4, 1, 0x06020000);
